@@ -22,7 +22,7 @@ public final class RandomRunsTest {
         Check all = new Check("RandomRunsTest");
         for (int seed = 0; seed < RUNS; seed++) {
             RandomRunsTest run = new RandomRunsTest(seed);
-            run.go(seed % 5);
+            run.go(seed % 6);
             all.eq("run " + seed + ":" + (run.same ? "" : run.told), run.same, true);
         }
         all.end();
@@ -110,7 +110,7 @@ public final class RandomRunsTest {
         String best = "k";
         int most = -1;
         for (int tried = 0; tried < 12; tried++) {
-            String row = row(stitches);
+            String row = below(4) == 0 ? colourRow() : row(stitches);
             int closed = model.closedWith(row);
             if (closed > most) {
                 best = row;
@@ -118,6 +118,16 @@ public final class RandomRunsTest {
             }
         }
         return best;
+    }
+
+    /** A row of many colours, which works all loops by stitches that take and make one. */
+    private String colourRow() {
+        StringBuilder row = new StringBuilder("[");
+        int count = 2 + below(5);
+        for (int i = 0; i < count; i++) {
+            row.append(oneOf("abd")).append(oneOf("kkpmyw")).append(below(3) == 0 ? "" : "" + below(7));
+        }
+        return row.append(']').append(oneOf("abd")).append("[k]").append(below(4) == 0 ? "/" : "").toString();
     }
 
     private String braidRow(int strands) {
@@ -186,8 +196,9 @@ public final class RandomRunsTest {
                     () -> real.setNumber('A', size, number), () -> model.setNumber('A', size, number));
             both("setFlat(" + size + "," + isFlat + ")", () -> real.setFlat(size, isFlat), () -> model.setFlat(size, isFlat));
         }
+        both("hang(0)", () -> real.hang(0), () -> model.hang(0));
         for (int call = 0; call < CALLS && same; call++) {
-            int group = below(100);
+            int group = kind == 5 ? 75 + below(22) : below(100);
             if (group < 4) {
                 tellRow(kind);
             } else if (group < 5) {
@@ -251,7 +262,7 @@ public final class RandomRunsTest {
         int place = place();
         char colour = below(20) == 0 ? oneOf("ckA*") : oneOf("abd");
         char some = below(3) == 0 ? '*' : colour;
-        int number = below(10) == 0 ? below(1100) - 50 : below(22);
+        int number = below(10) == 0 ? below(1100) - 50 : below(below(2) == 0 ? 4 : 22);
         String at = "(" + size + "," + row + "," + place + ")" + colour + some + number;
         switch (which) {
             case 0, 1 -> both("mark" + at, () -> real.mark(size, row, place), () -> model.mark(size, row, place));
@@ -279,28 +290,46 @@ public final class RandomRunsTest {
         }
     }
 
+    /** Mostly a needle that holds a loop. */
+    private int needle(boolean isFront) {
+        int needle = below(30) == 0 ? below(40) - 12 : below(16);
+        boolean holds = false;
+        for (int tried = 0; tried < 40 && !holds && below(20) > 0; tried++) {
+            needle = below(16);
+            holds = Check.answer(heldBy(isFront, needle)).equals(true);
+        }
+        return needle;
+    }
+
+    private Supplier<Boolean> heldBy(boolean isFront, int needle) {
+        return () -> model.onNeedle(isFront, needle, 0) >= 0;
+    }
+
     private void useMachine(int which) {
         int size = size();
-        int needle = below(30) == 0 ? below(40) - 12 : below(8);
         boolean isFront = below(2) == 0;
+        int needle = needle(isFront);
         int racking = below(20) == 0 ? below(12) - 6 : below(7) - 3;
-        int depth = below(30) == 0 ? -1 : below(4);
+        int depth = below(30) == 0 ? -1 : below(below(3) == 0 ? 4 : 2);
         String at = "(" + isFront + "," + needle + ")";
         switch (which) {
             case 0 -> {
-                if (below(5) == 0) {
+                if (below(12) == 0) {
                     both("hang(" + size + ")", () -> real.hang(size), () -> model.hang(size));
                 }
             }
             case 1 -> both("rack(" + racking + ")", () -> real.rack(racking), () -> model.rack(racking));
-            case 2, 3 -> both("transfer" + at, () -> real.transfer(isFront, needle), () -> model.transfer(isFront, needle));
+            case 2, 3 -> {
+                both("transfer" + at, () -> real.transfer(isFront, needle), () -> model.transfer(isFront, needle));
+            }
             case 4, 5 -> both("onNeedle" + at + depth, () -> real.onNeedle(isFront, needle, depth),
                     () -> model.onNeedle(isFront, needle, depth));
             case 6 -> both("acts()", real::acts, model::acts);
             default -> {
-                if (below(6) == 0) {
+                int pair = needle(true);
+                if (below(8) == 0) {
                     both("rack(0)", () -> real.rack(0), () -> model.rack(0));
-                    both("leastActs(" + needle + ")", () -> real.leastActs(needle), () -> model.leastActs(needle));
+                    both("leastActs(" + pair + ")", () -> real.leastActs(pair), () -> model.leastActs(pair));
                 }
             }
         }
