@@ -66,7 +66,9 @@ public final class Stitchwright {
             throw new IllegalStateException("the pattern is full");
         }
         pattern.addBuffer();
-        knitAll();
+        for (int size = 0; size < SIZES; size++) {
+            sizeOf(size).knit();
+        }
         return pattern.rowCount();
     }
 
@@ -76,7 +78,11 @@ public final class Stitchwright {
         }
         requireRowInBuffer();
         pattern.keepBufferAs(row);
-        return knitAll();
+        int changed = 0;
+        for (int size = 0; size < SIZES; size++) {
+            changed += sizeOf(size).knit() ? 1 : 0;
+        }
+        return changed;
     }
 
     public int setNumber(char letter, int size, int number) throws IllegalArgumentException, IndexOutOfBoundsException {
@@ -439,11 +445,6 @@ public final class Stitchwright {
         if (pattern.faultyPlace() != NONE) {
             throw new IllegalArgumentException("the buffer is no row");
         }
-    }
-
-    /** Knits all sizes anew, and tells in how many of them the numbers of loops changed. */
-    private int knitAll() {
-        return (firstSize.knit() ? 1 : 0) + (secondSize.knit() ? 1 : 0) + (thirdSize.knit() ? 1 : 0);
     }
 
     /** The words of the pattern: the word 0 is the buffer, the words from 1 on are the rows. */
