@@ -521,20 +521,22 @@ public final class Stitchwright {
 
         /** Tells whether a sign may follow; two digits are left while a count may begin. */
         private static boolean mayStand(char sign, int depth, int digitsLeft, boolean inSquare, boolean hasItem) {
-            switch (sign) {
-                case '(':
-                    return depth < MOST_DEEP;
-                case '[':
-                    return depth == 0;
-                case ')':
-                    return hasItem && depth > (inSquare ? 1 : 0);
-                case ']':
-                    return hasItem && inSquare && depth == 1;
-                case '/':
-                    return hasItem && depth == 0;
-                default:
-                    return isDigit(sign) ? digitsLeft > 0 : !isLetter(sign) || digitsLeft == 2;
+            if (sign == '(') {
+                return depth < MOST_DEEP;
             }
+            if (sign == '[') {
+                return depth == 0;
+            }
+            if (sign == ')') {
+                return hasItem && depth > (inSquare ? 1 : 0);
+            }
+            if (sign == ']') {
+                return hasItem && inSquare && depth == 1;
+            }
+            if (sign == '/') {
+                return hasItem && depth == 0;
+            }
+            return isDigit(sign) ? digitsLeft > 0 : !isLetter(sign) || digitsLeft == 2;
         }
 
         static boolean opens(char sign) {
@@ -569,7 +571,7 @@ public final class Stitchwright {
     /** Reads a row for one size in the way it is worked, sign by sign, its counts and repeats carried out. */
     private static final class Reading {
         /** Far above what lies between two signs: there each bracket is gone through twice at most. */
-        private static final int MOST_STEPS = 100_000;
+        private static final int MOST_STEPS = 100000;
 
         private final Pattern pattern;
         /** The count or number of the stitch, or of the brackets that open, at a place. */
@@ -715,7 +717,7 @@ public final class Stitchwright {
     /** One size: what the letters mean in it, whether it is flat, and how its rows are worked. */
     private static final class Size {
         /** Far above what a row can need: 60 loops taken, 60 made, and the colours between them. */
-        private static final int MOST_WORKED = 1_000_000;
+        private static final int MOST_WORKED = 1000000;
 
         private final Pattern pattern;
         private final Reading reading;
@@ -836,24 +838,17 @@ public final class Stitchwright {
         private void workStitch(char stitch) {
             int one = Pattern.takenBy(stitch) > 0 ? take() : NONE;
             int two = Pattern.takenBy(stitch) > 1 ? take() : NONE;
-            switch (stitch) {
-                case 'w':
-                    boolean isOverPurl = fabric.stitchAt(fabric.lastRow(), one) == 'p';
-                    fails = !fabric.append(isOverPurl ? 'p' : 'k', colour, one, NONE);
-                    break;
-                case 'f':
-                    fails = !fabric.append(stitch, colour, one, NONE) || !fabric.append(stitch, colour, one, NONE);
-                    break;
-                case 'x':
-                case 'z':
-                    fails = !fabric.append(stitch, colour, two, NONE) || !fabric.append(stitch, colour, one, NONE);
-                    break;
-                case 'o':
-                    fabric.bindOff(one, colour);
-                    break;
-                default:
-                    fails = !fabric.append(stitch, colour, one, two);
-                    break;
+            if (stitch == 'o') {
+                fabric.bindOff(one, colour);
+            } else if (stitch == 'w') {
+                boolean isOverPurl = fabric.stitchAt(fabric.lastRow(), one) == 'p';
+                fails = !fabric.append(isOverPurl ? 'p' : 'k', colour, one, NONE);
+            } else if (stitch == 'f') {
+                fails = !fabric.append(stitch, colour, one, NONE) || !fabric.append(stitch, colour, one, NONE);
+            } else if (stitch == 'x' || stitch == 'z') {
+                fails = !fabric.append(stitch, colour, two, NONE) || !fabric.append(stitch, colour, one, NONE);
+            } else {
+                fails = !fabric.append(stitch, colour, one, two);
             }
         }
 
@@ -1114,21 +1109,16 @@ public final class Stitchwright {
         }
 
         private static int yarnBy(char stitch) {
-            switch (stitch) {
-                case 'h':
-                    return 0;
-                case 'c':
-                case 'y':
-                    return 2;
-                case 't':
-                case 's':
-                    return 4;
-                case 'x':
-                case 'z':
-                    return 5;
-                default:
-                    return 3;
+            if (stitch == 'h') {
+                return 0;
             }
+            if (stitch == 'c' || stitch == 'y') {
+                return 2;
+            }
+            if (stitch == 't' || stitch == 's') {
+                return 4;
+            }
+            return stitch == 'x' || stitch == 'z' ? 5 : 3;
         }
 
         /** How many loops the float has that ends at a loop, 0 if none does. */

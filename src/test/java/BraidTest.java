@@ -14,12 +14,58 @@ public final class BraidTest {
 
     public static void main(String[] args) {
         coordinates();
+        opposite();
+        for (int seed = 0; seed < 60; seed++) {
+            widest(new Random(seed));
+        }
         for (int seed = 0; seed < RUNS; seed++) {
             run(new Random(seed));
         }
         CHECK.eq("many are alike", alike > RUNS / 5, true);
         CHECK.eq("many are not", alike < RUNS * 4 / 5, true);
         CHECK.end();
+    }
+
+    /** All rows full of crossings, on the most strands. */
+    private static void widest(Random random) {
+        List<String> rows = new ArrayList<>();
+        List<Integer> word = new ArrayList<>();
+        for (int row = 0; row < 12; row++) {
+            List<Integer> crossed = new ArrayList<>();
+            for (int place = 1 + row % 2; place < 8; place += 2) {
+                crossed.add(random.nextInt(4) == 0 ? place : -place);
+            }
+            word.addAll(crossed);
+            rows.addAll(rows(8, crossed));
+        }
+        for (int row = 11; row >= 0; row--) {
+            String back = rows.get(row).replace('x', 'q').replace('z', 'x').replace('q', 'z');
+            rows.add(random.nextInt(30) == 0 ? back.replace("x", "kk") : back);
+        }
+        Stitchwright x = Told.knit(8, rows.toArray(new String[0]));
+        boolean due = true;
+        for (int row = 0; row < 12; row++) {
+            due &= rows.get(23 - row).equals(rows.get(row).replace('x', 'q').replace('z', 'x').replace('q', 'z'));
+        }
+        CHECK.eq(rows.toString(), x.areAlike(0, 24, 0, 0), due);
+        CHECK.eq(rows + " half", x.areAlike(0, 12, 0, 0), false);
+        CHECK.eq(rows + " as itself", x.areAlike(0, 12, 1, 12), true);
+    }
+
+    /** One size crosses by x alone, the other by z alone, as often as can be. */
+    private static void opposite() {
+        Stitchwright x = Told.castOn(8);
+        x.setNumber('B', 0, 1);
+        x.setNumber('C', 1, 1);
+        for (int row = 0; row < 24; row++) {
+            Told.add(x, row % 2 == 0 ? "(x4)B(z4)C[k]" : "k(x3)B(z3)C[k]");
+        }
+        CHECK.eq("84 crossings", x.crossings(0), 84);
+        CHECK.eq("as itself", x.areAlike(0, 24, 0, 24), true);
+        CHECK.eq("x is not z", x.areAlike(0, 24, 1, 24), false);
+        CHECK.eq("x is not nothing", x.areAlike(0, 24, 2, 24), false);
+        CHECK.eq("z is not nothing", x.areAlike(1, 24, 2, 24), false);
+        CHECK.eq("nothing", x.areAlike(2, 24, 1, 0), true);
     }
 
     /** The coordinates keep the laws of braids. */

@@ -81,6 +81,8 @@ public final class FabricTest {
         CHECK.eq("what they take", Told.parents(x, 0, 1), "0 1 2 - - 4+5 7+8 9 - - 11+12 14+15");
         Stitchwright none = Told.knit(2, "k0(p3)0k2");
         CHECK.eq("none at all", Told.stitches(none, 0, 1), "kk");
+        CHECK.eq("none within brackets", Told.stitches(Told.knit(5, "((k)0p)2(y0(k)0)2(l)3"), 0, 1), "pplll");
+        CHECK.eq("brackets without a count", Told.stitches(Told.knit(4, "(kp)((l)w)"), 0, 1), "kplk");
         Stitchwright two = Told.knit(12, "k12");
         CHECK.eq("two digits", two.loops(0, 1), 12);
         Stitchwright leading = Told.knit(3, "k03");
@@ -97,6 +99,9 @@ public final class FabricTest {
         CHECK.eq("they take none", Told.stitches(Told.knit(2, "[yb]k[p]"), 0, 1), "kp");
         CHECK.eq("they take none by counts", Told.stitches(Told.knit(2, "[k0y]k[p]"), 0, 1), "kp");
         CHECK.eq("a count by which they take", Told.stitches(Told.knit(7, "[(kp)2m]1[l]"), 0, 1), "kpkpmlll");
+        CHECK.eq("brackets beside one another in [ ]", Told.stitches(Told.knit(7, "[(k)2(p)]1[l]"), 0, 1), "kkpkkpl");
+        CHECK.eq("brackets within brackets in [ ]", Told.stitches(Told.knit(9, "[((k)2p)3][l]"), 0, 1), "kkpkkpkkp");
+        CHECK.eq("they do not fit", Told.stitches(Told.knit(8, "[((k)2p)3][l]"), 0, 1), "llllllll");
         CHECK.eq("left by what came before", Told.stitches(Told.knit(7, "kt[p]2s"), 0, 1), "ktpps");
         Stitchwright letters = Told.knit(9, "[kB]C[p]");
         letters.setNumber('B', 0, 2);
@@ -334,13 +339,12 @@ public final class FabricTest {
     }
 
     private static void noBraids() {
-        for (String row : new String[] {"t2y2", "yt2y", "fkt", "fks", "mkk1o", "otf", "ykko"}) {
+        for (String row : new String[] {"t2y2", "yt2y", "fkt", "skf", "ok3", "yk3o", "k3oy", "mk3o", "fot", "k2fo"}) {
             Stitchwright x = Told.knit(4, row);
-            int last = x.rows(0);
-            if (last == 1) {
-                CHECK.fails("no braid: " + row, UNSUPPORTED, () -> x.areAlike(0, 1, 0, 0));
-                CHECK.fails("no braid, other: " + row, UNSUPPORTED, () -> x.areAlike(0, 0, 0, 1));
-            }
+            CHECK.eq("closes: " + row, x.closes(0), true);
+            CHECK.fails("no braid: " + row, UNSUPPORTED, () -> x.areAlike(0, 1, 0, 0));
+            CHECK.fails("no braid, other: " + row, UNSUPPORTED, () -> x.areAlike(0, 0, 0, 1));
+            CHECK.fails("no braid twice: " + row, UNSUPPORTED, () -> x.areAlike(0, 1, 0, 1));
             CHECK.eq("the row 0 is one", x.areAlike(0, 0, 1, 0), true);
         }
         Stitchwright held = Told.flat(4, "xk/");

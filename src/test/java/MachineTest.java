@@ -18,6 +18,7 @@ public final class MachineTest {
         acts();
         leastActs();
         leastActsAmongOthers();
+        leastActsByFarRacking();
         CHECK.end();
     }
 
@@ -267,5 +268,26 @@ public final class MachineTest {
         CHECK.eq("nothing changed", more.acts(), 5);
         CHECK.eq("farther off", more.leastActs(8), 7);
         CHECK.eq("asked again", Check.answer(() -> more.leastActs(0)), "NoSuchElementException");
+    }
+
+    /** The fewest acts after some acts: r with a racking, f with a front needle, b with a back one. */
+    private static Object leastAfter(int loops, int needle, String... acts) {
+        Stitchwright x = hung(loops);
+        for (String act : acts) {
+            int number = Integer.parseInt(act.substring(1));
+            if (act.charAt(0) == 'r') {
+                x.rack(number);
+            } else {
+                x.transfer(act.charAt(0) == 'f', number);
+            }
+        }
+        return Check.answer(() -> x.leastActs(needle));
+    }
+
+    private static void leastActsByFarRacking() {
+        CHECK.eq("eight by the racking 3", leastAfter(11, 2, "f10", "f5", "r-2", "f0", "f1", "r0"), 8);
+        CHECK.eq("eight by the racking -3", leastAfter(5, 0, "r3", "f3", "f4", "r0"), 8);
+        CHECK.eq("nine", leastAfter(7, 1, "r3", "f4", "f6", "f5", "r0"), "NoSuchElementException");
+        CHECK.eq("another nine", leastAfter(10, 7, "f1", "r-2", "f4", "f6", "f5", "r-1", "f9", "r0"), "NoSuchElementException");
     }
 }

@@ -207,6 +207,9 @@ public final class MendingTest {
         Stitchwright flat = Told.flat(4, "bkakdk/", "dkakbk");
         CHECK.eq("no float to what is left", flat.longest(0, 1), 0);
         CHECK.eq("no float from what stays", flat.longest(0, 2), 0);
+        Stitchwright low = Told.flat(4, "k4", "k3/", "dkak2");
+        CHECK.eq("nor from what stays at the place 0", low.longest(0, 3), 0);
+        CHECK.eq("which stays", low.stitch(0, 3, 0), 'h');
         Stitchwright held = Told.flat(6, "bk3ak/", "bkakbk/", "k[k]");
         CHECK.eq("on the wrong side", held.longest(0, 2), 1);
         CHECK.eq("cast on", held.longest(0, 0), 0);

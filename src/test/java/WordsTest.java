@@ -153,6 +153,7 @@ public final class WordsTest {
         x.type('(');
         CHECK.fails("no row 25", ARGUMENT, x::addRow);
         CHECK.eq("rows", x.rows(1), 24);
+        CHECK.eq("replace the last by the same", Told.replace(x, 24, "p2"), 0);
         CHECK.eq("replace with 24 rows", Told.replace(x, 24, "t"), 3);
     }
 
