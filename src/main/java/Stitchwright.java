@@ -1089,7 +1089,7 @@ public final class Stitchwright {
         /** Tells whether the next loop in a direction that comes of some is there and undone. */
         private boolean isUndoneBeside(int row, int place, int step) {
             int beside = place + step;
-            while (has(row, beside) && comesOfNone(row, beside)) {
+            for (int passed = 0; passed < MOST_LOOPS && has(row, beside) && comesOfNone(row, beside); passed++) {
                 beside += step;
             }
             return isFlagged(row, beside);
