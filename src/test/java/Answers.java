@@ -122,6 +122,12 @@ final class Answers {
         }
         ask("racking", () -> x.rack(0));
         ask("acts then", x::acts);
+        for (int racking = -3; racking <= 3; racking++) {
+            Stitchwright y = begin();
+            int to = racking;
+            ask("rack", () -> y.rack(to));
+            ask("acts then", y::acts);
+        }
     }
 
     private void fabric(int size) {

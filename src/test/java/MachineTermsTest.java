@@ -19,6 +19,7 @@ public final class MachineTermsTest {
         apartBeyondTheBed();
         neighboursAlone();
         transfersKeepTheirDistance();
+        refusedRackings();
         eachAct();
         sinceTheLastHanging();
         leastOfEachPair();
@@ -275,6 +276,25 @@ public final class MachineTermsTest {
         CHECK.eq("and back", x.transfer(true, 3), 1);
         Stitchwright y = act(hung(2), "f0 r-2");
         CHECK.fails("no front needle -2", NONE, () -> y.transfer(false, 0));
+    }
+
+    // "A method that throws an exception changes nothing.": what was refused has no say in what is asked next.
+
+    private static void refusedRackings() {
+        Stitchwright low = act(hung(2), "f0");
+        CHECK.fails("0 at -3, 1 at 1", UNSUPPORTED, () -> low.rack(-3));
+        CHECK.eq("0 goes back to its needle", low.transfer(false, 0), 1);
+        tryRack("both on the front bed", low, -3, true);
+        Stitchwright high = act(hung(2), "f1");
+        CHECK.fails("1 at 4, 0 at 0", UNSUPPORTED, () -> high.rack(3));
+        CHECK.eq("1 goes back to its needle", high.transfer(false, 1), 1);
+        tryRack("both on the front bed again", high, 3, true);
+        Stitchwright last = act(hung(16), "f15");
+        CHECK.fails("15 at 18, 14 at 14", UNSUPPORTED, () -> last.rack(3));
+        CHECK.eq("the racking is as it was", last.rack(2), 0);
+        CHECK.fails("refused again", UNSUPPORTED, () -> last.rack(3));
+        CHECK.eq("from 2 on", last.rack(0), 2);
+        CHECK.eq("a transfer and two rackings", last.acts(), 3);
     }
 
     // "Each transfer, and each racking by some other number, is an act."
